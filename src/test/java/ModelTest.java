@@ -916,6 +916,28 @@ public final class ModelTest {
         compareAll(x, m);
     }
 
+    /** Rows as full as they can be, with as many marks as there can be. */
+    void runFull(int budget, int drops) {
+        RowStore x = new RowStore();
+        Model m = new Model();
+        call(x, m, "stride", 2);
+        call(x, m, "budget", budget);
+        int key = 0;
+        for (int batches = 0; batches < 16; batches++) {
+            for (int feeds = 0; feeds < 10; feeds++) {
+                int[] a = new int[5];
+                for (int i = 0; i < 10; i++) {
+                    int value = key % 7 < drops ? 255 : batches;
+                    a[i / 2] = a[i / 2] << 16 | key << 8 | value;
+                    key = (key + 1) % 200;
+                }
+                call(x, m, "feed", a);
+            }
+            call(x, m, "batch", 200);
+            compareAll(x, m);
+        }
+    }
+
     /** All that can be seen, at the end of a run. */
     void compareAll(RowStore x, Model m) {
         for (int what = 0; what < 16; what++) {
@@ -954,6 +976,11 @@ public final class ModelTest {
             if (test.wrong > 0) {
                 System.out.println("seed " + seed + ": " + test.wrong + " wrong");
             }
+            wrong += test.wrong;
+        }
+        for (int budget = 0; budget <= 10; budget += 2) {
+            ModelTest test = new ModelTest(0);
+            test.runFull(budget, budget % 4);
             wrong += test.wrong;
         }
         if (wrong > 0) {
