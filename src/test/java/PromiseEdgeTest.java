@@ -39,7 +39,9 @@ public final class PromiseEdgeTest {
             for (int what = 0; what < 9; what++) {
                 Checks.due("level(" + level + ", " + what + ")", what == 7 ? NONE : 0, x.level(level, what));
             }
-            Checks.due("row(" + level + ", 1, 5)", NONE, x.row(level, 1, 5));
+            for (int row = 0; row < Checks.rowsOf(level); row++) {
+                rowIs(x, level, row, 0, 0, 0, 0, 0, NONE);
+            }
         }
         Checks.due("steps", 0, x.steps(1000));
         Checks.due("batch(0)", 0, x.batch(0));
@@ -217,6 +219,25 @@ public final class PromiseEdgeTest {
         RowStore full = Checks.made(Checks::fill);
         full.drop(199);
         Checks.due("a sign ends it", 1, full.route(199, NONE, 0));
+        routeToAll();
+    }
+
+    /** The key that no act put is looked for in each shut row of each level, the younger one first. */
+    private static void routeToAll() {
+        RowStore x = new RowStore();
+        x.budget(0);
+        int[] pairs = new int[2 * 1022];
+        for (int i = 0; i < 1022; i++) {
+            pairs[2 * i] = i % 199;
+        }
+        Checks.acts(x, pairs);
+        Checks.due("two rows of each level", 18, x.route(199, NONE, 0));
+        for (int i = 0; i < 18; i++) {
+            Checks.due("level of " + i, i / 2, x.route(199, i, 0));
+            Checks.due("row of " + i, 1 - i % 2, x.route(199, i, 1));
+            Checks.due("ahead of it", i, x.row(i / 2, 1 - i % 2, 5));
+        }
+        Checks.element("the 19th", x, y -> y.route(199, 18, 0));
     }
 
     private static void keysThere() {
@@ -276,6 +297,12 @@ public final class PromiseEdgeTest {
         z.put(2, 1);
         Checks.due("a thing in the open row", 1, z.row(1, 0, 1));
         wastes("which is not counted", z, 0, 0, 0);
+        wastes("the first and the last key", Checks.with(0, 199), 0, 0, 0);
+        RowStore ends = Checks.packed(50, 2);
+        ends.budget(0);
+        ends.drop(0);
+        ends.drop(199);
+        wastes("signs of the first and the last key", ends, 0, 2, 2);
     }
 
     private static void wastes(String name, RowStore x, int zero, int one, int two) {
@@ -302,6 +329,11 @@ public final class PromiseEdgeTest {
         y.drop(128);
         Checks.due("a sign's level", 0, y.trace(128, 1));
         Checks.due("two rows", 2, y.trace(128, 0));
+        for (int level = 0; level < 9; level++) {
+            RowStore z = Checks.packed(0, Math.min(1 << level, 200));
+            Checks.due("the first key's level", level, z.trace(0, 1));
+            Checks.due("its row", 0, z.trace(0, 2));
+        }
     }
 
     private static void levels() {
@@ -347,6 +379,12 @@ public final class PromiseEdgeTest {
         x.steps(1);
         rowIs(x, 0, 1, 0, 0, 0, 0, 0, NONE);
         rowIs(x, 1, 1, 2, 2, 2, 0, 2, 0);
+        RowStore gone = new RowStore();
+        gone.budget(0);
+        Checks.putAll(gone, 1, 2);
+        rowIs(gone, 0, 0, 2, 1, 1, 0, 0, 1);
+        gone.steps(2);
+        rowIs(gone, 0, 0, 0, 0, 0, 0, 0, NONE);
         RowStore full = Checks.made(Checks::fill);
         Checks.due("the first to go to", 0, full.row(0, 1, 5));
         Checks.due("the last to go to", 17, full.row(8, 0, 5));
@@ -415,11 +453,44 @@ public final class PromiseEdgeTest {
         RowStore one = Checks.with(199);
         Checks.due("the last key's", 2, one.count(14));
         Checks.due("the last key's, plain", 2, one.count(15));
+        Checks.says("the most LOOKS that any KEY takes");
+        // Key 0 falls at an entry of both rows: 2 and 3. Others that do are found in the first, or fall in it behind all.
+        RowStore first = new RowStore();
+        first.put(0, 1);
+        first.put(199, 1);
+        first.put(1, 1);
+        Checks.due("the first key alone has the most", 5, first.count(14));
+        Checks.due("plain", 5, first.count(15));
+        Checks.due("the second has less", 2, first.looks(1, false));
+        Checks.due("the third has less", 4, first.looks(2, false));
+        lastKeyMost();
         RowStore zero = Checks.packed(0, 2);
         zero.put(0, 1);
         Checks.due("shut rows", 2, zero.count(7));
         Checks.due("things in them", 3, zero.count(8));
         Checks.due("keys", 2, zero.count(6));
+    }
+
+    /** The younger row of level 8 has all keys but the last one, which is found in the elder row alone. */
+    private static void lastKeyMost() {
+        RowStore x = Checks.packed(0, 200);
+        x.budget(40);
+        int[] pairs = new int[512];
+        for (int i = 0; i < 256; i++) {
+            pairs[2 * i] = i % 199;
+        }
+        Checks.acts(x, pairs);
+        x.steps(214 + 199);
+        Checks.due("the younger row's things", 199, x.row(8, 1, 1));
+        Checks.due("it is shut, and the elder one, too", 2, x.level(8, 0));
+        int others = 0;
+        for (int key = 0; key < 199; key++) {
+            others = Math.max(others, x.looks(key, true));
+        }
+        int last = x.looks(199, true);
+        Checks.due("the last key has more than the others", 1, last > others ? 1 : 0);
+        Checks.due("plain, its own", last, x.count(15));
+        Checks.due("by marks, its own", x.looks(199, false), x.count(14));
     }
 
     private static void ahead() {
@@ -547,6 +618,15 @@ public final class PromiseEdgeTest {
         RowStore nothing = new RowStore();
         nothing.view(2);
         Checks.due("it had none", 0, nothing.leave(2));
+        RowStore less = new RowStore();
+        less.budget(0);
+        Checks.putAll(less, 1, 2);
+        Checks.due("two rows of level 0", 2, less.view(0));
+        less.steps(2);
+        Checks.due("one of level 1, in place of both", 1, less.view(0));
+        Checks.due("shut yet", 1, less.against(0, 3));
+        Checks.due("restored", 1, less.restore(0));
+        Checks.due("the first rows stay free", 0, less.row(0, 0, 0) + less.row(0, 1, 0));
         Checks.due("it went, too", NONE, nothing.leave(2));
         Checks.due("taken again", 0, nothing.view(2));
         Checks.due("and gone again", 0, nothing.leave(2));
@@ -617,6 +697,21 @@ public final class PromiseEdgeTest {
         z.view(2);
         Checks.due("unlike values, and one alone", 2, z.between(1, 2));
         Checks.due("a value of 0 is there", 2, z.between(0, 2));
+        againstEnds();
+    }
+
+    private static void againstEnds() {
+        RowStore x = new RowStore();
+        x.view(1);
+        Checks.putAll(x, 0, 199);
+        x.view(0);
+        againstIs(x, 2, 0, 0, 1);
+        Checks.due("the first and the last key are new", 2, x.against(1, 2));
+        Checks.due("in one alone", 2, x.between(0, 1));
+        Checks.due("in the other alone", 2, x.between(1, 0));
+        x.drop(0);
+        x.drop(199);
+        againstIs(x, 2, 2, 0, 0);
     }
 
     private static void againstIs(RowStore x, int... want) {

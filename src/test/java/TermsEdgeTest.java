@@ -368,6 +368,25 @@ public final class TermsEdgeTest {
         }
     }
 
+    /** The least stride and full rows: half of what lies in both rows behind comes to what a lead has itself. */
+    private static void mostMarks() {
+        Checks.says("MARKS of each SHUT ROW of the next LEVEL: for each STRIDE-th of that ROW's ENTRIES (STRIDE 2 to 8)");
+        RowStore x = Checks.made(Checks::fill);
+        x.stride(2);
+        int[] entries = {16, 29, 50, 84, 137, 210, 292, 328, 200};
+        for (int level = 0; level < 9; level++) {
+            int things = Math.min(1 << level, 200);
+            int last = entries[level] - 1;
+            int number = level;
+            Checks.due("entries of the lead of level " + level, entries[level], x.row(level, 1, 2));
+            Checks.due("its things", things, x.row(level, 1, 1));
+            Checks.due("its marks", entries[level] - things, x.level(level, 8));
+            Checks.due("its last entry is one", 1, x.entry(level, 1, last, 0) >= 0 ? 1 : 0);
+            Checks.element("behind it", x, y -> y.entry(number, 1, entries[number], 0));
+            Checks.due("entries of the elder row", things, x.row(level, 0, 2));
+        }
+    }
+
     private static void leads() {
         Checks.says("The LEAD of a LEVEL is its youngest SHUT ROW. ENTRIES of a SHUT ROW are its THINGS and, of a LEAD,"
                 + " MARKS of each SHUT ROW of the next LEVEL");
@@ -460,6 +479,43 @@ public final class TermsEdgeTest {
         Checks.due("high without a mark", 7, y.bounds(0, 3, 0, true));
     }
 
+    /** Level 0: 11 (a mark), 199, so the mark is the ENTRY of number 0. */
+    private static void firstEntryMarks() {
+        Checks.says("low is the PLACE of the last MARK of that ROW ahead of where the KEY FELL in the LEAD, and 1;"
+                + " high is the PLACE of the first MARK of it from there on (if there are such MARKS).");
+        RowStore x = Checks.packed(10, 2);
+        x.stride(2);
+        x.put(199, 1);
+        Checks.due("entry 0 is a mark", 2, x.entry(0, 0, 0, 1));
+        Checks.due("low behind it", 2, x.bounds(12, 1, 0, false));
+        Checks.due("high behind it", 2, x.bounds(12, 1, 0, true));
+        Checks.due("low ahead of it", 0, x.bounds(10, 1, 0, false));
+        Checks.due("high ahead of it", 1, x.bounds(10, 1, 0, true));
+        Checks.due("low at its key", 0, x.bounds(11, 1, 0, false));
+        Checks.due("high at its key", 1, x.bounds(11, 1, 0, true));
+    }
+
+    /** Level 0: 20 (a mark of row 0), 25, 40 (a mark of row 1); the THING's VALUE is a number that a ROW has, too. */
+    private static void marksOfThatRow() {
+        Checks.says("the last MARK of that ROW ahead .. the first MARK of it from there on (if there are such MARKS).");
+        for (int value = 0; value <= 1; value++) {
+            RowStore x = new RowStore();
+            x.stride(2);
+            x.budget(2);
+            Checks.putAll(x, 10, 20, 30, 40);
+            x.budget(0);
+            x.put(25, value);
+            Checks.due("row of the first mark", 0, x.entry(0, 0, 0, 2));
+            Checks.due("row of the last mark", 1, x.entry(0, 0, 2, 2));
+            Checks.due("low in row 0, behind its mark", 2, x.bounds(30, 1, 0, false));
+            Checks.due("high in row 0, none is left", 2, x.bounds(30, 1, 0, true));
+            Checks.due("low in row 1, ahead of its mark", 0, x.bounds(30, 1, 1, false));
+            Checks.due("high in row 1", 1, x.bounds(30, 1, 1, true));
+            Checks.due("high in row 1, past the thing", 1, x.bounds(22, 1, 1, true));
+            Checks.due("low in row 1, behind its mark", 2, x.bounds(41, 1, 1, false));
+        }
+    }
+
     private static void halves() {
         Checks.says("By HALVES: as long as low is less than high, the ENTRY at half of low and high together (cut)"
                 + " is LOOKED at");
@@ -518,6 +574,26 @@ public final class TermsEdgeTest {
         Checks.due("it is new to 63", 64, Checks.with(142).ahead(63, 4));
     }
 
+    /** A merge that is under way goes on where it is, in the younger row as in the elder one. */
+    private static void aheadFromNow() {
+        Checks.says("AHEAD by n ACTS (0 to 64): as if so many came");
+        int[][] orders = {{1, 2}, {2, 1}};
+        for (int[] keys : orders) {
+            RowStore x = new RowStore();
+            x.budget(0);
+            Checks.putAll(x, keys);
+            Checks.due("two steps make room", 2, x.ahead(1, 1));
+            x.steps(1);
+            Checks.due("one is left", 1, x.ahead(1, 1));
+            Checks.due("one act is due", 1, x.due(0));
+        }
+        RowStore x = Checks.with(1, 2, 3, 4);
+        x.drop(11);
+        Checks.due("keys", 4, x.count(6));
+        Checks.due("what comes is younger than all that is shut", 5, x.ahead(1, 4));
+        Checks.due("and it is so again", 5, x.ahead(1, 4));
+    }
+
     private static void calmest() {
         Checks.says("CALM for n: the least BUDGET (0 to 40) by which none of these n ACTS would have a FORCED STEP; none.");
         Checks.due("no acts, nothing forced", 0, Checks.made(Checks::fill).calm(0));
@@ -557,13 +633,17 @@ public final class TermsEdgeTest {
         signComes();
         there();
         strides();
+        mostMarks();
         leads();
         likeKeys();
         marksOfMarks();
         narrowed();
+        firstEntryMarks();
+        marksOfThatRow();
         halves();
         tolls();
         aheadKeys();
+        aheadFromNow();
         calmest();
         Checks.end();
     }
